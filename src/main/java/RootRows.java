@@ -12,7 +12,7 @@ public final class RootRows {
     private static final int MOST_ROUND = 2, MOST_DIGITS = 6, MOST_TIMES = 100;
     private static final int SQUARE = 2, CUBE = 3;
     private static final int TOO_LARGE = 1, BELOW_ZERO = 2;
-    private static final int MOST_MILLION = 1000000, MOST_COMPARED = 10000, MOST_SUMMED = 1000000000;
+    private static final int MILLION = 1000000, MOST_COMPARED = 10000, MOST_SUMMED = 1000000000;
     private static final int MOST_FRACTION = 100000, MOST_TERM = 500, LONGEST_PERIOD = 1000000;
 
     /** The greatest bit that a root can have: its square is above every number whose root is asked. */
@@ -226,7 +226,7 @@ public final class RootRows {
     }
 
     public int digits(int n) {
-        if (!within(n, 0, MOST_MILLION)) {
+        if (!within(n, 0, MILLION)) {
             return BAD_VALUE;
         }
         long scaled = n;
@@ -297,7 +297,7 @@ public final class RootRows {
     // ---- squares
 
     public int twoSquares(int n, int what) {
-        if (!within(n, 0, MOST_MILLION) || !within(what, 0, 2)) {
+        if (!within(n, 0, MILLION) || !within(what, 0, 2)) {
             return BAD_VALUE;
         }
         int ways = 0;

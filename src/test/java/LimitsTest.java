@@ -1,3 +1,6 @@
+import java.lang.management.ManagementFactory;
+import java.lang.management.ThreadMXBean;
+
 /**
  * No call throws or changes anything by an error, for any arguments; and 512 of the dearest calls stay small.
  */
@@ -12,6 +15,7 @@ public final class LimitsTest {
         anyArguments();
         errorsChangeNothing();
         dearCalls();
+        roomOfDearCalls();
         CHECK.end();
     }
 
@@ -95,5 +99,36 @@ public final class LimitsTest {
         }
         CHECK.due("P14 count(2) behind many settles", rows.count(2), 6);
         CHECK.due("P12 steps of the long formula", rows.ofFormula(1, 0), 36);
+    }
+
+    /** All calls of a run live in one room, which nothing leaves: 512 of any sort may take a part of it only. */
+    private static void roomOfDearCalls() {
+        long before = bytesMade();
+        RootRows rows = new RootRows();
+        Check.make(rows, 0, "k(A)*k(A)*q(B+999)-B*k(A)+q(A)*q(A)-q(A)*k(A)*k(C+77)-B+1");
+        for (int i = 0; i < 512; i++) {
+            rows.settle(1 + i % 2, 0, 100);
+            rows.stepValue(0, 20);
+            rows.save(i % 2);
+            rows.restore(i % 2);
+            rows.undo();
+            rows.rootSum(999_999_999 - i);
+            rows.period(99_000 + i);
+            rows.convergent(99_000 + i, 500, 0);
+            rows.twoSquares(999_000 + i, 0);
+            rows.bit(999_999_999_999L, 2, 19, 3);
+            rows.put('A');
+            rows.fault();
+            rows.load(3);
+        }
+        CHECK.isTrue("512 calls of each sort make less than 4 MB", bytesMade() - before < 4_000_000);
+    }
+
+    private static long bytesMade() {
+        ThreadMXBean threads = ManagementFactory.getThreadMXBean();
+        if (threads instanceof com.sun.management.ThreadMXBean) {
+            return ((com.sun.management.ThreadMXBean) threads).getThreadAllocatedBytes(Thread.currentThread().getId());
+        }
+        return 0;
     }
 }
