@@ -242,7 +242,10 @@ public final class RootRows {
         }
         // Both sums squared leave a + b + root of 4ab against c + d + root of 4cd.
         int sign = signOfRoots(4L * a * b, 4L * c * d, (long) c + d - a - b);
-        return sign < 0 ? 2 : sign;
+        if (sign == 0) {
+            return 0;
+        }
+        return sign > 0 ? 1 : 2;
     }
 
     // ---- fractions

@@ -41,10 +41,9 @@ public final class FractionTest {
     }
 
     private static void allPeriods() {
-        RootRows rows = new RootRows();
         Model model = new Model();
         for (int n = 0; n <= 100_000; n += n < 2000 || n > 99_500 ? 1 : 37) {
-            CHECK.due("P20 period(" + n + ")", rows.period(n), model.period(n));
+            CHECK.due("P20 period(" + n + ")", new RootRows().period(n), model.period(n));
         }
     }
 
@@ -137,9 +136,9 @@ public final class FractionTest {
     }
 
     private static void manyConvergents() {
-        RootRows rows = new RootRows();
         Model model = new Model();
         for (int n = 0; n <= 100_000; n += n < 40 ? 1 : 2503) {
+            RootRows rows = new RootRows();
             for (int term = 0; term < 45; term++) {
                 for (int part = 0; part < 2; part++) {
                     CHECK.due("P22 convergent(" + n + ", " + term + ", " + part + ")",

@@ -69,9 +69,9 @@ public final class LimitsTest {
     }
 
     private static void errorsChangeNothing() {
-        RootRows rows = filled();
-        String before = stateOf(rows);
+        String before = stateOf(filled());
         for (long first : NUMBERS) {
+            RootRows rows = filled();
             int a = (int) first;
             long[] answers = {rows.set(2, a), rows.set(1, -1), rows.setCell(8, first), rows.setCell(3, -1), rows.put(0x4100),
                 rows.put(0xff41), rows.load(6), rows.load(2), rows.assign(8, 1), rows.assign(2, 2), rows.assign(2, 0),
@@ -81,8 +81,8 @@ public final class LimitsTest {
                 CHECK.isTrue("answer " + i + " is an error", answers[i] < 0 && answers[i] > -6);
             }
             CHECK.isTrue("errors change nothing", before.equals(stateOf(rows)));
+            CHECK.due("P28 restore(1) still", rows.restore(1), 19);
         }
-        CHECK.due("P28 restore(1) still", rows.restore(1), 19);
     }
 
     private static void dearCalls() {
@@ -90,7 +90,7 @@ public final class LimitsTest {
         rows.setCell(0, 1_000_000_000_000L);
         Check.make(rows, 0, "q(q(q(q(q(q(q(q(q(q(q(q(q(q(q(q(q(q(A-1+1))))))))))))))))))");
         Check.make(rows, 1, "k(A)*k(A)*q(B+999)-B*k(A)+q(A)*q(A)-q(A)*k(A)*k(C+77)-B+1");
-        for (int i = 0; i < 500; i++) {
+        for (int i = 0; i < 98; i++) {
             rows.settle(1 + i % 2, i % 2, 100);
             rows.rootSum(1_000_000_000);
             rows.period(99_999);

@@ -217,6 +217,7 @@ public final class RootTest {
         Model model = new Model();
         RootRows rows = new RootRows();
         for (int i = 0; i < 13 * 13 * 13 * 13; i++) {
+            rows = i % 169 == 0 ? new RootRows() : rows;
             int a = i % 13;
             int b = i / 13 % 13;
             int c = i / 169 % 13;
@@ -226,6 +227,7 @@ public final class RootTest {
         }
         for (int a = 9900; a <= 10_000; a += 7) {
             for (int b = a - 60; b <= a; b += 5) {
+                rows = new RootRows();
                 for (int c = b; c <= a; c += 3) {
                     double rest = Math.sqrt(a) + Math.sqrt(b) - Math.sqrt(c);
                     for (int d = Math.max(0, (int) (rest * rest) - 1); d <= Math.min(10_000, rest * rest + 2); d++) {

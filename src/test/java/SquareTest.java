@@ -33,9 +33,9 @@ public final class SquareTest {
     }
 
     private static void allTwoSquares() {
-        RootRows rows = new RootRows();
         Model model = new Model();
         for (int n = 0; n <= 1_000_000; n += n < 500 ? 1 : 4999) {
+            RootRows rows = new RootRows();
             for (int what = 0; what < 3; what++) {
                 CHECK.due("P23 twoSquares(" + n + ", " + what + ")", rows.twoSquares(n, what), model.twoSquares(n, what));
             }
@@ -66,13 +66,14 @@ public final class SquareTest {
     }
 
     private static void manyPowers() {
-        RootRows rows = new RootRows();
         Model model = new Model();
         for (long from = 0; from < 140; from++) {
+            RootRows rows = new RootRows();
             for (long to = from; to < 140; to++) {
                 CHECK.due("P24 powers(" + from + ", " + to + ")", rows.powers(from, to), model.powers(from, to));
             }
         }
+        RootRows rows = new RootRows();
         for (long r = 1; r < 100; r++) {
             long sixth = r * r * r * r * r * r;
             CHECK.due("P24 powers up to a sixth power", rows.powers(r, sixth), model.powers(r, sixth));
@@ -108,7 +109,7 @@ public final class SquareTest {
         long sum = 0;
         for (int n = 0; n <= 3000; n++) {
             sum += Model.rootDown(java.math.BigInteger.valueOf(n), 2);
-            CHECK.due("P25 rootSum(" + n + ")", rows.rootSum(n), sum);
+            CHECK.due("P25 rootSum(" + n + ")", new RootRows().rootSum(n), sum);
         }
         Model model = new Model();
         for (int n : new int[] {999_950_883, 999_950_884, 999_950_885, 999_999_999, 536_870_912, 123_456_789}) {
